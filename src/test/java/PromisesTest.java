@@ -196,6 +196,13 @@ public final class PromisesTest {
         pass(y, 10);
         due(5, "59 in RAIN: one WALKS", y.waiting(0, 1), 58);
         due(5, "count(2)", y.count(2), 1);
+        FillAndGo z = new FillAndGo();
+        z.rain(1);
+        z.people(0, 1, 50);
+        pass(z, 99);
+        due(5, "49 wait", z.waiting(0, 1), 49);
+        pass(z, 1);
+        due(5, "of just 50 one WALKS", z.waiting(0, 1), 49);
     }
 
     // ---- 6 .. 11
@@ -293,6 +300,12 @@ public final class PromisesTest {
         pass(x, 3);
         due(10, "at its AIM", x.busTold(0, 1), 1);
         due(10, "it QUEUES", x.busTold(0, 0), 1);
+        pass(x, 1);
+        due(10, "hold(0, 1)", x.hold(0, 1), 4);
+        pass(x, 1);
+        due(10, "HELD still", x.busTold(0, 0), 4);
+        pass(x, 1);
+        due(10, "it RUNS again", x.busTold(0, 0), 3);
     }
 
     private static void wants() {
@@ -367,6 +380,13 @@ public final class PromisesTest {
         }
         due(13, "3 TESTS are fine", customOf(new FillAndGo(), tests3), 0);
         due(13, "8 LINES are fine", customOf(new FillAndGo(), lines8), 0);
+        FillAndGo x = new FillAndGo();
+        due(13, "a longer one", customOf(x, "go=1?sold<12345"), -114);
+        due(13, "what stood behind it is gone", customOf(x, "go=1"), 0);
+        x.bus(1, 0, 0, 0);
+        x.force(0, 0);
+        due(13, "no TEST of it", x.why(0, 0), 0);
+        due(13, "ends too early", customOf(x, "go=1?sold<"), -110);
     }
 
     private static void force() {
@@ -423,6 +443,17 @@ public final class PromisesTest {
         due(15, "by sold", y.law(0, 0), 50);
         pass(y, 7);
         due(15, "it went, so it EARNED", y.law(0, 0), 60);
+        FillAndGo q = new FillAndGo();
+        q.bus(9, 0, 0, 0);
+        q.force(0, customOf(q, "go=50?waited=0/go=60?waited=5"));
+        pass(q, 7);
+        q.queue(0, 0);
+        due(15, "SINCE is when it comes to QUEUE", q.law(0, 0), 50);
+        pass(q, 5);
+        due(15, "5 MINUTES in the QUEUE", q.law(0, 0), 60);
+        q.road(0, 1, 9);
+        pass(q, 5);
+        due(15, "5 MINUTES LOADING", q.law(0, 0), 60);
         FillAndGo z = oneBus(60, 2, 9, 0);
         z.force(0, customOf(z, "go=1?waited<0/go=2?waited=0"));
         pass(z, 1);
@@ -449,6 +480,10 @@ public final class PromisesTest {
         due(16, "keep: by none", x.why(0, 2), NONE);
         x.force(0, 0);
         due(16, "another CUSTOM", x.why(0, 1), 0);
+        customOf(x, "go=1/go=2/fare=3/keep=4");
+        x.force(0, customOf(x, "go=6"));
+        due(16, "a shorter one behind a longer one", x.why(0, 0), 0);
+        due(16, "has no more LINES", x.why(0, 1), NONE);
     }
 
     // ---- 17
@@ -526,6 +561,23 @@ public final class PromisesTest {
         pass(v, 1);
         due(17, "4 of 10 are 40 hundredths", v.busTold(0, 0), 3);
         due(17, "SOLD", v.busTold(0, 4), 4);
+        FillAndGo t = new FillAndGo();
+        t.road(0, 1, 60);
+        for (int k = 0; k < 12; k++) t.bus(1, 0, 5, 0);
+        for (int k = 0; k < 12; k++) t.wants(k, 2);
+        for (int k = 11; k >= 0; k--) t.queue(k, 0);
+        pass(t, 11);
+        due(17, "eleven went, one a MINUTE", t.busTold(1, 5), 59);
+        due(17, "the last one QUEUES", t.stageTold(0, 1), 0);
+        pass(t, 1429);
+        for (int k = 0; k < 12; k++) due(17, "each OWES", t.busTold(k, 9), 5);
+        FillAndGo u = oneBus(5, 0, 40, 0);
+        u.people(0, 1, 99);
+        u.force(0, customOf(u, "go=98"));
+        pass(u, 40);
+        due(17, "39 of 40 are not 98 hundredths", u.busTold(0, 0), 2);
+        pass(u, 1);
+        due(17, "40 of 40 are", u.busTold(0, 0), 3);
     }
 
     private static void kindsOfRuns() {
@@ -542,6 +594,10 @@ public final class PromisesTest {
         due(17, "SHORT is back", s.busTold(0, 0), 1);
         due(17, "SHORT: half of them WALK, cut", s.count(2), 1);
         due(17, "SHORT RIDDEN", s.count(3), 2);
+        FillAndGo t = oneBus(5, 1, 4, 2);
+        t.people(0, 1, 99);
+        pass(t, 8);
+        due(17, "SHORT: half of 4 WALK", t.count(2), 2);
         FillAndGo e = oneBus(5, 2, 3, 2);
         e.people(0, 1, 99);
         pass(e, 3);
@@ -794,17 +850,18 @@ public final class PromisesTest {
         due(25, "beside(1, 2, 0)", x.beside(1, 2, 0), NO);
         due(25, "beside(1, 0, -1)", x.beside(1, 0, -1), NO);
         due(25, "beside(1, 0, 3)", x.beside(1, 0, 3), NO);
-        pass(x, 7);
+        pass(x, 37);
         long[][] told = new long[2][3];
         for (int rain = 0; rain < 2; rain++) {
             for (int what = 0; what < 3; what++) told[rain][what] = x.beside(111, rain, what);
         }
-        due(25, "nothing changes", x.count(0) + x.count(8), 7);
+        due(25, "nothing changes", x.count(0) + x.count(8), 37);
+        due(25, "some RODE, some WALKED before", x.count(3) > 0 && x.count(2) > 0 ? 1 : 0, 1);
         for (int rain = 0; rain < 2; rain++) {
             FillAndGo y = oneBus(5, 0, 4, 0);
             y.people(0, 1, 99);
             y.people(2, 3, 99);
-            pass(y, 7);
+            pass(y, 37);
             y.rain(rain);
             long waited = y.count(4), ridden = y.count(3), walked = y.count(2);
             pass(y, 111);
@@ -872,6 +929,17 @@ public final class PromisesTest {
         pass(z, 14300);
         due(26, "up to MINUTE 14400", z.plan(0, 0, 100), 0);
         due(26, "beyond", z.plan(0, 0, 101), NO);
+        FillAndGo y = new FillAndGo();
+        for (int k = 0; k < 5; k++) y.bus(4, 0, 0, 0);
+        sheetOf(y, 3, 0, 0, 0, 1, 0, 2, 0, 3, 0, 4, 2);
+        due(26, "one MINUTE, five places, none waits", y.plan(3, 5, 1), 0);
+        due(27, "of like ones the least", y.planned(), 0);
+        y.road(2, 3, 4);
+        y.people(2, 3, 99);
+        due(26, "only the fifth takes one in", y.plan(3, 5, 2), 0);
+        due(27, "planned()", y.planned(), 16);
+        due(26, "none of them", y.plan(3, 0, 2), 1);
+        due(27, "planned()", y.planned(), 0);
     }
 
     private static long waitedBy(int n, int... places) {
@@ -895,6 +963,8 @@ public final class PromisesTest {
         due(28, "gain(5, 3, 9999)", x.gain(5, 3, 9999), 0);
         due(28, "gain(5, 3, 1)", x.gain(5, 3, 1), 9999);
         due(28, "gain(3, 5, 1)", x.gain(3, 5, 1), NONE);
+        due(28, "gain(0, 0, 2)", x.gain(0, 0, 2), 0);
+        due(28, "gain(0, 0, 3)", x.gain(0, 0, 3), 2);
         due(29, "fights(-1)", x.fights(-1), BAD);
         due(29, "fights(10000)", x.fights(10000), BAD);
         due(29, "fights(9999)", x.fights(9999), 0);
@@ -928,6 +998,11 @@ public final class PromisesTest {
         x.gain(0, 3, 500);
         due(30, "a SIDE that isn't among them does not matter", x.part(2, 2, 2, -1), 22);
         due(30, "one that is does", x.part(2, 4, 2, 0), 3);
+        x.gain(3, 0, 9);
+        x.fights(0);
+        due(30, "another SIDE is the first one", x.part(4, 2, 4, 3), 0);
+        due(30, "the QUIET ones", x.part(4, 2, 4, -2), 2);
+        due(30, "one ROUTE, one SIDE", x.part(1, 1, 1, 0), 0);
     }
 
     private static void savings() {
@@ -965,6 +1040,15 @@ public final class PromisesTest {
         due(32, "stops(1)", x.stops(1), 999);
         due(33, "turns()", x.turns(), NONE);
         due(31, "one ROUND, once", x.round(2, 1), STATE);
+        FillAndGo y = new FillAndGo();
+        due(31, "round(2, 1)", y.round(2, 1), 2);
+        for (int k = 0; k < 5; k++) due(33, "round and round", y.turns(), k % 2);
+        due(34, "took", y.saved(0, 1), 6);
+        FillAndGo z = new FillAndGo();
+        due(31, "round(6, 7)", z.round(6, 7), 6);
+        z.stops(5);
+        for (int k = 0; k < 8; k++) due(33, "from the last to the first", z.turns(), k % 5);
+        due(34, "took", z.saved(2, 1), 70);
     }
 
     // ---- 35 .. 39
@@ -1016,6 +1100,7 @@ public final class PromisesTest {
         due(37, "KNOWN in 4", x.told(0, 9, 4), 100);
         due(37, "KNOWN in 5", x.told(0, 9, 5), 27);
         due(37, "KNOWN in 10", x.told(0, 9, 10), 30);
+        due(37, "day 0", x.told(0, 0, 10), 0);
         due(37, "days 0 to 3", x.told(0, 3, 10), 7);
         due(37, "days 4 to 5", x.told(0, 45, 10), 23);
         due(37, "days 4 to 4", x.told(0, 44, 10), 20);
@@ -1070,6 +1155,40 @@ public final class PromisesTest {
         due(38, "image() again", x.image(), 8);
         pass(x, 1);
         due(39, "the latest", x.back(), 8);
+        imageOfBuses();
+    }
+
+    private static void imageOfBuses() {
+        FillAndGo x = oneBus(20, 5, 4, 1);
+        for (int k = 0; k < 3; k++) x.bus(4, 0, 100, 1);
+        pass(x, 1435);
+        for (int k = 1; k < 4; k++) x.queue(k, 5);
+        x.jump(3, 11);
+        pass(x, 15);
+        x.force(5, customOf(x, "go=7?waited=15"));
+        x.hold(0, 5);
+        x.image();
+        int[][] told = new int[4][12];
+        int[] laws = new int[4];
+        for (int b = 0; b < 4; b++) {
+            for (int what = 0; what < 12; what++) told[b][what] = x.busTold(b, what);
+            laws[b] = x.law(b, 0);
+        }
+        due(39, "minutes LEFT", told[0][5] > 0 ? 1 : 0, 1);
+        due(39, "EARNED, SPENT", told[0][6] > 0 && told[0][7] > 0 ? 1 : 0, 1);
+        due(39, "KEPT, OWES", told[0][8] > 0 && told[1][9] > 0 ? 1 : 0, 1);
+        due(39, "a number below 0", told[3][2], -1);
+        due(39, "waited", laws[1], 7);
+        x.jump(1, 3);
+        x.road(5, 4, 3);
+        pass(x, 1600);
+        x.jump(2, 3);
+        x.rest(3);
+        due(39, "back()", x.back(), 1450);
+        for (int b = 0; b < 4; b++) {
+            for (int what = 0; what < 12; what++) due(39, "busTold(" + b + ", " + what + ")", x.busTold(b, what), told[b][what]);
+            due(39, "SINCE of " + b, x.law(b, 0), laws[b]);
+        }
     }
 
     // ---- 40 .. 44
