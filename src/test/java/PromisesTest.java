@@ -1,17 +1,5 @@
 /** Each promise of the document by itself: ordinary inputs, its edges, and each refusal in the order told. */
-public final class PromisesTest {
-    private static final int NONE = -1, BAD = -2, STATE = -3, FULL = -4;
-    private static final long NO = -4611686018427387904L;
-    private static int wrong = 0;
-    private static int looked = 0;
-
-    private static void due(int promise, String what, long got, long want) {
-        looked++;
-        if (got == want) return;
-        wrong++;
-        System.out.println("promise " + promise + ": " + what + " answered " + got + ", due is " + want);
-    }
-
+public final class PromisesTest extends Testing {
     public static void main(String[] args) {
         newObject();
         roads();
@@ -54,41 +42,7 @@ public final class PromisesTest {
         busesBySheet();
         taken();
         constants();
-        System.out.println(wrong == 0 ? looked + " answers are as due" : wrong + " answers are not as due");
-        if (wrong != 0) System.exit(1);
-    }
-
-    // ---- helpers
-
-    private static int feedText(FillAndGo x, String text) {
-        int have = x.count(6);
-        for (int i = 0; i < text.length(); i++) have = x.feed(text.charAt(i), 1);
-        return have;
-    }
-
-    private static int customOf(FillAndGo x, String text) {
-        feedText(x, text);
-        return x.custom();
-    }
-
-    private static void pass(FillAndGo x, int n) {
-        for (int left = n; left > 0; left -= 200) x.minutes(Math.min(left, 200));
-    }
-
-    /** STAGES 0 and 1 with a ROAD of so many minutes, and one BUS that QUEUES at 0 and WANTS a KIND. */
-    private static FillAndGo oneBus(int road, int kind, int seats, int fuel) {
-        FillAndGo x = new FillAndGo();
-        x.road(0, 1, road);
-        x.bus(seats, 0, 0, fuel);
-        x.wants(0, kind);
-        x.queue(0, 0);
-        return x;
-    }
-
-    private static FillAndGo sheetOf(FillAndGo x, int s, int sort, int... cells) {
-        x.sheet(s, sort, cells.length);
-        for (int i = 0; i < cells.length; i++) x.cell(s, i, cells[i]);
-        return x;
+        end();
     }
 
     // ---- 1
