@@ -258,6 +258,15 @@ public final class AheadTest extends Testing {
         FillAndGo z = sheetOf(star(), 0, 0, 3, 5, 2, 0, 1, 1);
         z.plan(0, 3, 20);
         due("without what does not help", z.planned(), 6);
+        FillAndGo none = sheetOf(withBuses(3), 0, 0, 0, 0, 1, 0, 2, 5);
+        due("none waits at all", none.plan(0, 3, 20), 0);
+        due("the empty set", none.planned(), 0);
+        FillAndGo one = withBuses(3);
+        one.people(4, 5, 99);
+        one.road(4, 5, 9);
+        sheetOf(one, 0, 0, 0, 0, 1, 4, 2, 4);
+        due("one BUS takes the only one in", one.plan(0, 3, 2), 0);
+        due("the least set by which none waits", one.planned(), 2);
         by("these come to QUEUE there");
         FillAndGo w = sheetOf(star(), 0, 0, 2, 0, 1, 0);
         due("in the order of the SHEET", w.plan(0, 2, 20), Math.min(waitedIn(20, 2, 0), waitedIn(20, 2, 0, 1, 0)));
@@ -328,6 +337,12 @@ public final class AheadTest extends Testing {
         for (int[] e : edges) {
             x.fights(e[0]);
             due("QUIET ones by " + e[0], x.part(1, 2, 1, -2), e[1]);
+        }
+        for (int best = 0; best < 4; best++) {
+            FillAndGo z = new FillAndGo();
+            z.gain(0, best, 1);
+            due("only SIDE " + best, z.part(1, 4, 1, -2), 1);
+            due("has it", z.part(1, 4, 1, 0), best);
         }
         FillAndGo y = new FillAndGo();
         y.gain(0, 3, 9999);

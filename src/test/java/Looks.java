@@ -16,7 +16,7 @@ final class Looks {
         FillAndGo made();
     }
 
-    private static final int LOOKS = 7;
+    private static final int LOOKS = 9;
     private static final Map<String, Method> CALLS = new HashMap<>();
     private static final Map<Town, List<List<String>>> PLAIN = new IdentityHashMap<>();
 
@@ -84,7 +84,9 @@ final class Looks {
             case 3: atWhatWasTold(x, seen); break;
             case 4: atSavingsAndBooks(x, seen); break;
             case 5: atSheets(x, seen); break;
-            default: later(x, seen); break;
+            case 6: atNumbersAndWaits(x, seen); break;
+            case 7: later(x, seen); break;
+            default: withAllOnTheWay(x, seen); break;
         }
         return seen;
     }
@@ -170,11 +172,44 @@ final class Looks {
         }
     }
 
+    /** The numbers that STAGES give, and SINCE, as far as TESTS of waited show it. */
+    private static void atNumbersAndWaits(FillAndGo x, List<String> seen) {
+        x.custom();
+        int waits = Testing.customOf(x, "go=0?waited<0/go=1?waited=0/go=2?waited=1/go=3?waited=2/go=4?waited=3/go=5?waited=4"
+            + "/go=6?waited=5/go=7?waited=6");
+        for (int s = 0; s < 6; s++) x.force(s, waits);
+        for (int b = 0; b < 12; b++) see(x, seen, "law", b, 0);
+        for (int b = 0; b < 12; b++) {
+            for (int s = 0; s < 6; s++) {
+                see(x, seen, "queue", b, s);
+                see(x, seen, "rest", b);
+            }
+        }
+    }
+
     private static void later(FillAndGo x, List<String> seen) {
         for (int k = 0; k < 8; k++) see(x, seen, "minutes", 200);
-        for (int b = 0; b < 12; b++) {
-            for (int what = 0; what < 12; what++) see(x, seen, "busTold", b, what);
-        }
+        atBuses(x, seen);
         for (int what = 0; what < 10; what++) see(x, seen, "count", what);
+    }
+
+    /** SEATS, OWNER, TARGET and FUEL show when all BUSES RUN for a DAY, with no CUSTOM but one by OWNERS. */
+    private static void withAllOnTheWay(FillAndGo x, List<String> seen) {
+        x.custom();
+        int owners = Testing.customOf(x, "fare=1/fare=2?owner=1/fare=3?owner=2/fare=4?owner=3/fare=5?owner=4/fare=6?owner=5");
+        for (int a = 0; a < 6; a++) {
+            x.force(a, owners);
+            for (int b = 0; b < 6; b++) x.people(a, b, 99);
+            x.road(a, (a + 1) % 6, 3);
+        }
+        for (int b = 0; b < 12; b++) {
+            x.wants(b, 0);
+            x.queue(b, b % 6);
+        }
+        for (int k = 0; k < 8; k++) {
+            x.minutes(200);
+            for (int b = 0; b < 12; b++) see(x, seen, "busTold", b, 6);
+        }
+        for (int b = 0; b < 12; b++) see(x, seen, "busTold", b, 9);
     }
 }

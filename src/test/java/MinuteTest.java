@@ -117,6 +117,21 @@ public final class MinuteTest extends Testing {
             due("of " + e[0], x.count(2), e[1]);
             due("the others wait", x.waiting(0, 1), e[0] - e[1]);
         }
+        by("Of each two STAGES .. a tenth of those that wait (cut) WALK off");
+        FillAndGo y = new FillAndGo();
+        for (int a = 0; a < 6; a++) {
+            for (int b = 0; b < 6; b++) y.people(a, b, 45);
+        }
+        pass(y, 20);
+        due("nine wait", y.waiting(5, 0), 9);
+        due("of 30 times 9 none", y.count(2), 0);
+        FillAndGo z = new FillAndGo();
+        for (int a = 0; a < 6; a++) {
+            for (int b = 0; b < 6; b++) z.people(a, b, 50);
+        }
+        pass(z, 20);
+        due("nine of ten wait", z.waiting(5, 0), 9);
+        due("of 30 times 10 one each", z.count(2), 30);
     }
 
     private static void walkInRain() {
@@ -126,7 +141,7 @@ public final class MinuteTest extends Testing {
         x.people(3, 2, 99);
         int hundredths = 0, walked = 0;
         boolean[] seen = new boolean[5];
-        for (int minute = 0; minute < 3000; minute++) {
+        for (int minute = 0; minute < 1000; minute++) {
             hundredths += 99;
             if (minute % 10 != 9) continue;
             int off = 2 * (hundredths / 100) / 100;
@@ -134,7 +149,6 @@ public final class MinuteTest extends Testing {
             hundredths -= 100 * off;
             walked += off;
             passTo(x, minute + 1);
-            if (minute > 1500) continue;
             due("WALKED by " + minute, x.count(2), walked);
             due("they wait", x.waiting(3, 2), hundredths / 100);
         }
@@ -755,15 +769,16 @@ public final class MinuteTest extends Testing {
 
     private static void owesMore() {
         by("EARNED less SPENT less TARGET: if below 0, it OWES so much more");
-        int[][] edges = {{0, 0, 0}, {1, 0, 0}, {3, 1, 0}, {4, 1, 1}, {5, 1, 2}, {9999, 0, 9999}, {9999, 3332, 3}, {9999, 3333, 0}};
+        int[][] edges = {{0, 0, 0}, {1, 0, 1}, {3, 1, 0}, {4, 1, 1}, {5, 1, 2}, {9999, 0, 9999}, {9999, 3332, 3},
+            {9999, 3333, 0}};
         for (int[] e : edges) {
             FillAndGo x = hired(e[0], e[1], "keep=100");
             due("EARNED", x.busTold(0, 6), 3 * e[1]);
             passTo(x, 1440);
-            due("OWES, TARGET " + e[0] + ", EARNED " + 3 * e[1], x.busTold(0, 9), e[1] == 0 ? e[0] : e[2]);
+            due("OWES, TARGET " + e[0] + ", EARNED " + 3 * e[1], x.busTold(0, 9), e[2]);
             due("KEPT nothing", x.busTold(0, 8), 0);
             passTo(x, 2880);
-            due("so much more", x.busTold(0, 9), e[1] == 0 ? 2 * e[0] : e[2] + e[0]);
+            due("so much more", x.busTold(0, 9), e[2] + e[0]);
         }
         FillAndGo y = withBuses(2);
         y.queue(0, 0);

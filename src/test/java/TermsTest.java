@@ -31,6 +31,7 @@ public final class TermsTest extends Testing {
         nothingStandsBetween();
         endsTooEarly();
         lastLineThatHolds();
+        linesOfItsOwn();
         withoutAny();
         fieldWaited();
         fieldSoldAndEarned();
@@ -366,6 +367,13 @@ public final class TermsTest extends Testing {
         due("a FIELD is no KEY", customOf(new FillAndGo(), "sold=1"), -100);
         due("a KEY is no FIELD", customOf(new FillAndGo(), "go=1?keep=1"), -105);
         due("so is neither sold nor stage", customOf(new FillAndGo(), "go=1?stld=1"), -107);
+        due("no KEY", customOf(new FillAndGo(), "=1"), -100);
+        due("no KEY in a second LINE", customOf(new FillAndGo(), "go=1/=1"), -105);
+        due("half a KEY", customOf(new FillAndGo(), "kee=1"), -103);
+        for (char sign : new char[] {'<', '>', '='}) {
+            due("no FIELD", customOf(new FillAndGo(), "go=1?" + sign + "1"), -105);
+            due("half a FIELD", customOf(new FillAndGo(), "go=1?wait" + sign + "1"), -109);
+        }
     }
 
     /** The whole word is fine; cut anywhere it ends too early, and with another byte there that one is the FAULT. */
@@ -436,6 +444,22 @@ public final class TermsTest extends Testing {
             forceText(y, 0, "go=1/go=2" + tests[i]);
             due("with " + tests[i], y.why(0, 0), i == 0 ? 1 : 0);
         }
+    }
+
+    private static void linesOfItsOwn() {
+        by("1 to 8 LINES: a shorter CUSTOM behind a longer one");
+        FillAndGo x = new FillAndGo();
+        x.bus(9, 3, 0, 0);
+        customOf(x, "go=1/go=2/go=3/go=4?owner=3?rain=0/fare=5/keep=6/keep=7/fare=8");
+        forceText(x, 0, "go=9?rain=1");
+        due("no LINE of the longer one", x.why(0, 0), NONE);
+        due("no fare", x.why(0, 1), NONE);
+        due("no keep", x.why(0, 2), NONE);
+        customOf(x, "go=1?rain=0?sold=0?owner=2/fare=1x");
+        forceText(x, 0, "go=1/fare=2");
+        due("no TEST of one with a FAULT", x.why(0, 0), 0);
+        due("its second LINE", x.law(0, 1), 2);
+        due("no keep", x.why(0, 2), NONE);
     }
 
     private static void withoutAny() {
